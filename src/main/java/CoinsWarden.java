@@ -157,35 +157,19 @@ public final class CoinsWarden {
     }
 
     public int law() {
-        if (now.lawCount >= ROOM) {
-            tape.length = 0;
-            return refuse(NO_ROOM);
+        int number = readText(now.lawTexts, now.lawCount, true);
+        if (number >= 0) {
+            now.lawCount++;
         }
-        Text text = reading.read(true);
-        latestFault = reading.wrongAt;
-        tape.length = 0;
-        if (text == null) {
-            return refuse(BAD_TEXT);
-        }
-        now.lawTexts[now.lawCount] = text;
-        now.lawCount++;
-        return allow(now.lawCount - 1);
+        return number;
     }
 
     public int habit() {
-        if (now.habitCount >= ROOM) {
-            tape.length = 0;
-            return refuse(NO_ROOM);
+        int number = readText(now.habitTexts, now.habitCount, false);
+        if (number >= 0) {
+            now.habitCount++;
         }
-        Text text = reading.read(false);
-        latestFault = reading.wrongAt;
-        tape.length = 0;
-        if (text == null) {
-            return refuse(BAD_TEXT);
-        }
-        now.habitTexts[now.habitCount] = text;
-        now.habitCount++;
-        return allow(now.habitCount - 1);
+        return number;
     }
 
     public int fault() {
@@ -534,6 +518,22 @@ public final class CoinsWarden {
         }
         now.addCar(from, till, seat, flights);
         return true;
+    }
+
+    /** The TAPE becomes the next of the TEXTS, of which so many are held; its number, or what it is REFUSED by. */
+    private int readText(Text[] texts, int held, boolean asLaw) {
+        if (held >= ROOM) {
+            tape.length = 0;
+            return refuse(NO_ROOM);
+        }
+        Text text = reading.read(asLaw);
+        latestFault = reading.wrongAt;
+        tape.length = 0;
+        if (text == null) {
+            return refuse(BAD_TEXT);
+        }
+        texts[held] = text;
+        return allow(held);
     }
 
     /** The chances of all SLOTS by the LAW in FORCE. */

@@ -152,6 +152,10 @@ public final class PromisesTest {
         due("9: no room is tar", x.tar(), 2);
         Check.feed(x, new byte[3]);
         due("8: none", x.row(), 0);
+        CoinsWarden y = new CoinsWarden();
+        Check.feed(y, new byte[] {1, 2, 0, 3});
+        due("8: one that just ends with the tape", y.row(), 1);
+        due("9: no tar", y.tar(), 0);
         due("8: that is not refused", x.status(), 0);
         due("9: one", x.tar(), 1);
     }
@@ -213,6 +217,26 @@ public final class PromisesTest {
         lawFault("comes 1\t", 7);
         lawFault("comes 1 \377", 8);
         lawFault("comes slots", 6);
+    }
+
+    private static void promise10CutTape() {
+        CoinsWarden x = new CoinsWarden();
+        Check.feed(x, "comes 12");
+        x.end(7);
+        due("10: what was cut off is no part of it", x.law(), 0);
+        x.force(0);
+        due("10: comes 1", x.asks(0, 1, 0, 0), 1);
+        Check.feed(x, "comes slotx");
+        x.end(10);
+        due("10: what was cut off is no part of it", x.law(), 1);
+        StringBuilder full = new StringBuilder("comes ");
+        while (full.length() < 396) {
+            full.append(' ');
+        }
+        due("10: up to the tape's last byte", Check.law(x, full + "slot"), 2);
+        due("10: up to the tape's last byte", Check.law(x, full + "1000"), 3);
+        due("10: up to the tape's last byte", Check.law(x, full + "slo;"), -6);
+        due("12: there", x.fault(), 396);
     }
 
     private static void promise10Room() {
@@ -312,7 +336,7 @@ public final class PromisesTest {
         value("1 % [rain - 7]", 40);
         value("1000 * 1000 * 1000 / 1000 / 1000 / 100", 10);
         value("[1000 * 1000 * 1000 + 1] / 1000 / 1000 / 100", 40);
-        value("[0 - 1000 * 1000 * 1000] / 1000 / 1000 / 100 + 50", 40);
+        value("[0 - 1000 * 1000 * 1000] / 1000 / 1000 / 100 + 60", 50);
         value("[0 - 1000 * 1000 * 1000 - 1] + 50", 40);
         value("3; fines 5 / 0; spares", 3);
         value("3; fines 4 if slot = 5; fines 6 if slot = 4", 4);
@@ -441,6 +465,24 @@ public final class PromisesTest {
         due("18: what", x.least(0, -1), NONE);
         due("18: car", x.least(1, 0), NONE);
         due("18: car", x.least(-1, 0), NONE);
+    }
+
+    private static void promise18To20Twelve() {
+        CoinsWarden x = withLaw("comes 10");
+        x.car(0, 11, 0, 9);
+        due("18: twelve at first", x.least(0, 0), 12 * ONE);
+        due("18: twelve at first", x.least(0, 1), 12 * ONE);
+        due("18: twelve at first, or one each time with flights", x.least(0, 2), 12 * ONE);
+        due("19: twelve", x.down(0, 0), 12);
+        for (int i = 1; i < 12; i++) {
+            due("19: then none", x.down(0, i), 0);
+        }
+        due("20: twelve", x.run(0, 0, 12, 0), 12);
+        due("20: what is not paid yet", x.run(0, 0, 12, 2), 10);
+        due("20: no more than one stays", x.run(0, 4, 1, 0), 8);
+        x.terms(1, 4);
+        due("20: three buy twelve", x.run(0, 0, 1, 0), 3);
+        due("20: left till the end", x.run(0, 4, 1, 8), 0);
     }
 
     private static void promise18And20Run() {
@@ -643,6 +685,24 @@ public final class PromisesTest {
         due("27: as it was", x.count(17), 2);
         due("27: what", x.town(4), NONE);
         due("27: what", x.town(-1), NONE);
+        CoinsWarden z = withLaw("comes 0; comes 1 if wardens = 3");
+        z.car(0, 0, 0, 0);
+        z.terms(0, 9);
+        z.terms(6, 3);
+        due("27: three wardens get no more than none", z.town(2), 0);
+        z.terms(6, 0);
+        due("27: three wardens", z.town(2), 3);
+        due("27: fine 90", z.town(3), 90);
+        z.put(0, 1, 1);
+        z.terms(1, 4);
+        due("27: one coin for both", z.town(3), 45);
+        z.put(0, 1, 0);
+        due("27: up to the highest fine", Check.law(z, "comes 0; comes 1 if wardens = 3; spares if not slot = 11"), 1);
+        z.force(1);
+        z.put(0, 1, 11);
+        z.terms(1, 1);
+        due("27: fine 99", z.town(3), 99);
+        due("27: by the fine alone", z.town(1), 99 * ONE / 10);
         CoinsWarden y = withLaw("fines 3");
         y.car(0, 0, 0, 0);
         y.car(1, 2, 0, 0);
@@ -879,6 +939,7 @@ public final class PromisesTest {
         promise07End();
         promise08And09Row();
         promise10And12Law();
+        promise10CutTape();
         promise10Room();
         promise11And12Habit();
         promise13Force();
@@ -887,6 +948,7 @@ public final class PromisesTest {
         promise15Likely();
         promise16And17AtFirst();
         promise18And19Down();
+        promise18To20Twelve();
         promise18And20Run();
         promise18Warned();
         promise21And22Habits();
