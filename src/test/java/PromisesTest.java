@@ -796,6 +796,22 @@ public final class PromisesTest {
         due("34: the latest that was drawn", x.drawn(0, 2), 12);
     }
 
+    private static void promise33SixCars() {
+        CoinsWarden x = new CoinsWarden();
+        for (int n = 0; n < 6; n++) {
+            x.car(n, 2 * n, 0, 0);
+        }
+        x.day(0, NONE);
+        for (int n = 0; n < 6; n++) {
+            due("34: all slots are paid at first", x.drawn(n, 2), n + 1);
+        }
+        due("34: car", x.drawn(6, 2), NONE);
+        x.clear();
+        x.image(0);
+        due("36: back", x.back(0), 0);
+        due("34: the day stays", x.drawn(5, 0), 6);
+    }
+
     private static void promise33Habit() {
         CoinsWarden x = withLaw("comes 10 if since > 1; comes 0 if since = 1; fines stay; spares if slot = 6");
         Check.habit(x, "throw 2 if slot = 3 or stay = 0");
@@ -961,6 +977,7 @@ public final class PromisesTest {
         promise28And29Slips();
         promise30To32Fits();
         promise33And34Day();
+        promise33SixCars();
         promise33Habit();
         promise35And36Images();
         promise37And38Count();
