@@ -216,6 +216,15 @@ public final class CostEdgesTest {
         due(s, y.run(0, 3, 1, 13), NONE);
         due(s, y.run(0, 2, 1, 0), NONE);
         due(s, y.run(0, 6, 1, 0), NONE);
+        String f = doc.sentence("if he came last as told by SINCE and did not come since.");
+        CoinsWarden z = withLaw("comes 0; comes 10 if slot = 11 and since > 10");
+        z.car(11, 11, 0, 0);
+        for (int since = 1; since <= 12; since++) {
+            z.terms(4, since);
+            due(f + " then since is 12 in slot 11", z.run(0, 11, Math.min(12, since + 11), 0), 1);
+            due(f + " and nothing else can be", z.least(0, 1), ONE);
+        }
+        due(f + " not told by SINCE", z.run(0, 11, 10, 0), 0);
         String p = doc.sentence("RUN: the lowest best number of coins of a CAR in a SLOT of its stay, with since and so many SLOTS paid 0 .. 12.");
         y.put(0, 0, 0);
         y.put(0, 1, 11);
@@ -319,6 +328,14 @@ public final class CostEdgesTest {
             due(c, x.chalk(rounds, 1 << move, 4, 0), move > 4 && move <= 8 ? 0 : 1);
         }
         due(c + " two moves in a row are one", x.chalk(1 | 1 << 5 | 1 << 9, 1 << 2 | 1 << 3, 4, 0), 1);
+        String f = doc.sentence("How often; the fewest moves by which never, the lowest as bits.");
+        for (int bits = 0; bits < 4096; bits += 7) {
+            int limit = 1 + bits % 12;
+            int moves = x.chalk(bits, 0, limit, 2);
+            due(f, x.chalk(bits, moves, limit, 0), 0);
+            due(f, x.chalk(bits, 0, limit, 1), Integer.bitCount(moves));
+            due(f, moves, Naive.chalkMoves(bits, limit));
+        }
         String b = doc.sentence("CHALK: how often one is fined (what 0), the fewest moves (1; the told ones aside), which, as bits (2).");
         for (int moves : new int[] {0, 1, 2048, 4095}) {
             due(b, x.chalk(4095, moves, 1, 1), 11);
@@ -348,6 +365,13 @@ public final class CostEdgesTest {
         due(v + " more", x.game(2, 0), 1);
         x.place(1, 99);
         due(v + " one would not stand where one loses as much anyway", x.game(99, 0) * 100 + x.game(99, 1), 101);
+        String g = doc.sentence("A GAME with a TOLL: the VALUE, upper (what 0), lower number (1), whether one pays the TOLL (2: 1, 0)");
+        due(g + " what -1", x.game(99, -1), NONE);
+        for (int toll = 0; toll <= 99; toll++) {
+            due(g, x.game(toll, 0), Math.min(1, toll));
+            due(g, x.game(toll, 1), 1);
+            due(g, x.game(toll, 2), toll <= 1 ? 1 : 0);
+        }
         String c = doc.sentence("his CHANCE of PLACE i, upper (3 + 2 i), lower (4 + 2 i).");
         due(c, x.game(99, 3) * 100 + x.game(99, 4), 102);
         due(c, x.game(99, 5) * 100 + x.game(99, 6), 102);
@@ -367,6 +391,33 @@ public final class CostEdgesTest {
         }
         due(v, x.game(99, 0) * 100 + x.game(99, 1), 101);
         farFractions(v);
+        equalLosses(doc);
+    }
+
+    /** Random PLACES, at the bounds too: CHANCES add up to one, and what one loses is as it is said. */
+    private static void equalLosses(Document doc) {
+        String s = doc.sentence("(the one in which what one loses at each PLACE one would stand at is just the VALUE without TOLL)");
+        java.util.Random random = new java.util.Random(8);
+        for (int round = 0; round < 300; round++) {
+            CoinsWarden x = new CoinsWarden();
+            int places = 1 + random.nextInt(6);
+            int[] loss = new int[places];
+            int[] caught = new int[places];
+            for (int p = 0; p < places; p++) {
+                loss[p] = random.nextInt(round % 3 == 0 ? 99 : 20);
+                caught[p] = loss[p] + 1 + random.nextInt(99 - loss[p]);
+                due(s, x.place(loss[p], caught[p]), p);
+            }
+            double value = (double) x.game(99, 0) / x.game(99, 1);
+            double sum = 0;
+            for (int p = 0; p < places; p++) {
+                double chance = (double) x.game(99, 3 + 2 * p) / x.game(99, 4 + 2 * p);
+                sum += chance;
+                double loses = loss[p] + chance * (caught[p] - loss[p]);
+                so(s, chance > 0 ? Math.abs(loses - value) < 1e-9 : loses > value - 1e-9);
+            }
+            so(s + " one in all", Math.abs(sum - 1) < 1e-9);
+        }
     }
 
     private static void farFractions(String v) {
@@ -419,6 +470,13 @@ public final class CostEdgesTest {
             due(s + " wages are too high", y.town(2), 0);
             due(s, y.town(3), wardens == 0 ? 9 : 0);
         }
+        String g = doc.sentence("THE TOWN gets what all CARS pay AT FIRST by the best number on the mean");
+        CoinsWarden all = Twin.at(Twin::full);
+        long gets = -7 * ONE;
+        for (int car = 0; car < 6; car++) {
+            gets += all.cost(car, all.coins(car, 0));
+        }
+        due(g, all.town(0), gets);
         CoinsWarden z = withLaw("comes 1 if wardens > 0; comes 0 if wardens = 0; spares if stay < 11");
         z.car(0, 11, 0, 0);
         z.terms(6, 0);

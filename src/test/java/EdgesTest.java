@@ -39,6 +39,51 @@ public final class EdgesTest {
         return x;
     }
 
+    private static void newObject(Document doc) {
+        String s = doc.sentence("No CARS.");
+        CoinsWarden x = new CoinsWarden();
+        int[] first = {0, 0, 0, 0, 0, 0, 0, 0, 0, 0, 0, NONE, 1, 1, 40, 0, 12, 1, 20, 0};
+        for (int what = 0; what < 20; what++) {
+            due(s + " count " + what, x.count(what), first[what]);
+        }
+        due(s, x.status() + x.tar() + x.clear(), 0);
+        due(s, x.fault(), NONE);
+        due(s, x.which(), NONE);
+        for (int car = 0; car < 6; car++) {
+            due(s, x.fact(car, 0), NONE);
+            due(s, x.drawn(car, 0), NONE);
+            due(s, x.advice(car), NONE);
+        }
+        due(s + " two objects are apart", x.car(1, 1, 1, 1), 0);
+        due(s + " two objects are apart", new CoinsWarden().count(0), 0);
+        due(doc.sentence("`NONE = -1`: There is none."), CoinsWarden.NONE, -1);
+    }
+
+    /** The counters and the answers hold up to the last call that is promised. */
+    private static void lastCall(Document doc) {
+        String s = doc.sentence("An object is used for at most 512 calls after it has been made");
+        int[] counted = {6, 7, 8, 10};
+        Twin.Call[] wrong = {x -> x.car(12, 12, 0, 0), x -> x.back(0), CoinsWarden::undo, CoinsWarden::row};
+        for (int n = 0; n < counted.length; n++) {
+            CoinsWarden x = new CoinsWarden();
+            for (int call = 1; call < 512; call++) {
+                wrong[n].on(x);
+            }
+            due(s, x.count(counted[n]), 511);
+        }
+        CoinsWarden x = Twin.at(Twin::full);
+        for (int call = 0; call < 400; call++) {
+            x.place(0, 1);
+        }
+        due(s, x.count(9), 400);
+        CoinsWarden y = Twin.at(Twin::some);
+        for (int call = 0; call < 200; call++) {
+            y.image(call % 2);
+            y.back(call % 2);
+        }
+        due(s, y.count(0), 3);
+    }
+
     private static void slots(Document doc) {
         String s = doc.sentence("SLOTS 0 .. 11, half hours.");
         span(s + " car from", Twin::empty, 0, 11, (x, n) -> x.car(n, 11, 0, 0));
@@ -267,8 +312,9 @@ public final class EdgesTest {
         }
         due(s, x.count(4), 12);
         due(s, x.fits(NONE), ONE / 4096);
+        String w = doc.sentence("in how many he came in a SLOT, too, by the LAW in FORCE.");
         for (int n = 0; n < 12; n++) {
-            due(s, x.went(n * 5 % 12), n % 2 == 1 ? ONE / 4096 : 0);
+            due(w, x.went(n * 5 % 12), n % 2 == 1 ? ONE / 4096 : 0);
         }
         String u = doc.sentence("The latest SLIP is undone: its SLOT.");
         for (int n = 11; n >= 0; n--) {
@@ -296,6 +342,17 @@ public final class EdgesTest {
         x.slip(0, 0);
         due(s + " without is as good as four", x.which(), NONE);
         span(s, Twin::full, -1, 5, (y, n) -> y.fits(n) >= 0 ? 0 : -1);
+        String f = doc.sentence("of 1,000,000,000,000 in how many all SLIPS are so, by a LAW (NONE: without one), all else as it is");
+        CoinsWarden z = new CoinsWarden();
+        Check.law(z, "comes rain + wardens + mood + since");
+        z.terms(3, 1);
+        z.terms(5, 2);
+        z.terms(7, 3);
+        z.terms(4, 1);
+        z.slip(0, 1);
+        due(f, z.fits(0), ONE / 10 * 7);
+        due(f + " the law is not in force", z.fits(NONE), ONE / 2);
+        due(f + " nor is it by asking", z.count(11), NONE);
         String w = doc.sentence("By which LAW SLIPS are so in most (NONE: without, too).");
         CoinsWarden y = new CoinsWarden();
         Check.law(y, "comes 0");
@@ -779,6 +836,8 @@ public final class EdgesTest {
 
     public static void main(String[] args) throws IOException {
         Document doc = new Document(CHECK);
+        newObject(doc);
+        lastCall(doc);
         slots(doc);
         cars(doc);
         stay(doc);

@@ -507,6 +507,61 @@ public final class TextEdgesTest {
         }
     }
 
+    private static void binding(Document doc) {
+        String s = doc.sentence("TEST: BOTH {\"or\" BOTH}. BOTH: PLAIN {\"and\" PLAIN}. PLAIN: \"not\" PLAIN | \"(\" TEST \")\"");
+        String[] is = {"1=2", "1=1"};
+        for (int bits = 0; bits < 8; bits++) {
+            boolean a = (bits & 1) != 0;
+            boolean b = (bits & 2) != 0;
+            boolean c = (bits & 4) != 0;
+            String[] t = {is[bits & 1], is[bits >> 1 & 1], is[bits >> 2]};
+            test(s, t[0] + " or " + t[1] + " and " + t[2], a || b && c ? 1 : 0);
+            test(s, t[0] + " and " + t[1] + " or " + t[2], a && b || c ? 1 : 0);
+            test(s, "(" + t[0] + " or " + t[1] + ") and " + t[2], (a || b) && c ? 1 : 0);
+            test(s, t[0] + " and (" + t[1] + " or " + t[2] + ")", a && (b || c) ? 1 : 0);
+            test(s, "not " + t[0] + " or " + t[1] + " and not " + t[2], !a || b && !c ? 1 : 0);
+            test(s, "not (" + t[0] + " or " + t[1] + ") or not not " + t[2], !(a || b) || c ? 1 : 0);
+            test(s, "not (" + t[0] + " and not (" + t[1] + " or " + t[2] + "))", !(a && !(b || c)) ? 1 : 0);
+        }
+        String m = doc.sentence("SUM: TERM {(\"+\" | \"-\") TERM}. TERM: PART {(\"*\" | \"/\" | \"%\") PART}.");
+        sum(m, "20-2*3+1", 15);
+        sum(m, "20-[2*3+1]", 13);
+        sum(m, "[20-2]*3+1", 55);
+        sum(m, "50/4%5*3", 6);
+        sum(m, "50-20/4-3", 42);
+        sum(m, "[[50-20]/[4-1]]", 10);
+        sum(m, "50%8/2", 1);
+    }
+
+    private static void becomes(Document doc) {
+        String l = doc.sentence("The TAPE, which is empty then, becomes a LAW: its number.");
+        String h = doc.sentence("The TAPE, which is empty then, becomes a HABIT: its number. -5, -6 (as for law()).");
+        CoinsWarden x = new CoinsWarden();
+        due(l + " an empty tape", x.law(), -6);
+        due(h + " an empty tape", x.habit(), -6);
+        Check.feed(x, "comes");
+        due(l, x.count(5), 5);
+        Check.feed(x, " 4;");
+        Check.feed(x, "spares");
+        due(l + " fed in parts", x.law(), 0);
+        due(l, x.count(5), 0);
+        due(l + " it is empty then", x.law(), -6);
+        Check.feed(x, "throw 2");
+        due(h, x.habit(), 0);
+        due(h, x.count(5), 0);
+        due(h + " it is empty then", x.habit(), -6);
+        Check.feed(x, "throw 2 3");
+        due(h, x.habit(), -6);
+        due(h, x.count(5), 0);
+        Check.feed(x, "comes 2 3");
+        due(l, x.law(), -6);
+        due(l, x.count(5), 0);
+        due(l, x.row(), -6);
+        CoinsWarden y = Twin.at(Twin::full);
+        due(h, y.habit(), -5);
+        due(h, y.count(5), 0);
+    }
+
     private static void holds(Document doc) {
         String s = doc.sentence("A CLAUSE HOLDS, if its \"if\" (if it has one) is so, and neither that nor its SUM is BROKEN.");
         String[] laws = {"fines 1", "fines 1 if 1=1", "fines 1 if 1=2", "fines 1 if 1/0=1", "fines 1/0", "fines 1/0 if 1=1",
@@ -546,6 +601,8 @@ public final class TextEdgesTest {
         broken(doc);
         lazily(doc);
         comparisons(doc);
+        binding(doc);
+        becomes(doc);
         holds(doc);
         CHECK.close("TextEdgesTest");
     }
