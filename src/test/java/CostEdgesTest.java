@@ -186,6 +186,21 @@ public final class CostEdgesTest {
         y.put(0, 0, 11);
         due(s + " one slot", y.down(0, 0), 1);
         due(s + " one slot", y.down(0, 1), NONE);
+        CoinsWarden p = withLaw("comes 10 if slot = 2 or slot = 4 or slot = 7; comes 0 if not (slot = 2 or slot = 4 or slot = 7)");
+        p.car(1, 9, 0, 2);
+        p.terms(1, 3);
+        p.terms(0, 2);
+        due(s + " three at once, or two by going down", p.least(0, 0), 6 * ONE);
+        rowOf(s + " the first of them", p, 0, 2, 0, 0, 0, 0, 0, 0, 0);
+        p.put(0, 3, 3);
+        due(s + " three at once", p.least(0, 0), 6 * ONE);
+        rowOf(s + " three at once", p, 3, 0, 0, 0, 0, 0, 0, 0, 0);
+        p.put(0, 3, 0);
+        due(s + " one pays two of his comings", p.least(0, 0), 4 * ONE);
+        rowOf(s + " as late as can be", p, 0, 1, 0, 0, 0, 0, 1, 0, 0);
+        p.terms(2, 1);
+        due(s + " a coin for two fines, or none at all", p.least(0, 0), 3 * ONE);
+        rowOf(s + " none is the first", p, 0, 0, 0, 0, 0, 0, 0, 0, 0);
         String i = doc.sentence("DOWN: coins in the i-th SLOT of a CAR (i 0 .. ).");
         for (int till = 0; till < 12; till++) {
             CoinsWarden z = new CoinsWarden();
@@ -194,6 +209,13 @@ public final class CostEdgesTest {
             due(i + " behind it", z.down(0, till + 1), NONE);
             due(i + " ahead", z.down(0, -1), NONE);
         }
+    }
+
+    private static void rowOf(String s, CoinsWarden x, int... coins) {
+        for (int i = 0; i < coins.length; i++) {
+            due(s + " in " + i, x.down(0, i), coins[i]);
+        }
+        due(s + " behind", x.down(0, coins.length), NONE);
     }
 
     private static void run(Document doc) {
@@ -216,6 +238,24 @@ public final class CostEdgesTest {
         due(s, y.run(0, 3, 1, 13), NONE);
         due(s, y.run(0, 2, 1, 0), NONE);
         due(s, y.run(0, 6, 1, 0), NONE);
+        for (int from = 0; from < 12; from++) {
+            for (int till = from; till < 12; till++) {
+                CoinsWarden w = new CoinsWarden();
+                w.car(from, till, 0, 9);
+                due(s + " all paid at first", w.least(0, 1), (till - from + 1) * ONE);
+                w.terms(2, 1);
+                due(s + " a half each time", w.least(0, 1), (till - from + 1) * ONE / 2);
+            }
+        }
+        CoinsWarden v = withLaw("comes 0; comes 10 if since = 12");
+        v.car(0, 11, 0, 0);
+        for (int since = 1; since <= 12; since++) {
+            v.terms(4, since);
+            due(s + " he comes once in twelve", v.least(0, 1), ONE);
+            for (int slot = 0; slot < 12; slot++) {
+                due(s + " just when he comes", v.run(0, slot, since, 0), since == 12 ? 1 : 0);
+            }
+        }
         String f = doc.sentence("if he came last as told by SINCE and did not come since.");
         CoinsWarden z = withLaw("comes 0; comes 10 if slot = 11 and since > 10");
         z.car(11, 11, 0, 0);
@@ -257,6 +297,15 @@ public final class CostEdgesTest {
         CoinsWarden z = withLaw("comes 5");
         z.car(0, 0, 0, 3);
         due(s + " ahead is cheaper", z.least(0, 2), ONE);
+        for (int per = 1; per <= 4; per++) {
+            CoinsWarden p = withLaw("comes 0; comes 10 if slot = 0 or since = " + per + " or since > 4");
+            p.car(0, 4, 0, 0);
+            p.terms(1, per);
+            int comings = 4 / per + 1;
+            due(s + " a coin lasts till just ahead of his next coming", p.least(0, 2), comings * ONE);
+            p.put(0, 1, per - 1);
+            due(s + " one coin is enough", p.least(0, 2), ONE);
+        }
         String l = doc.sentence("What DOWN (what 0), RUN (1), WARNED (2), SOUP (3) costs, is worth to a CAR (SEAT or not).");
         answered(l, 3, new Twin.Call[] {x -> x.least(0, -1), x -> x.least(0, 0), x -> x.least(0, 1), x -> x.least(0, 2),
             x -> x.least(0, 3), x -> x.least(0, 4)});
@@ -295,10 +344,65 @@ public final class CostEdgesTest {
         }
         due(s, Check.habit(x, "throw 1 if left = 0; throw 2 if left > 12"), 5);
         due(s + " none is paid at first", x.habits(0, 5), ONE);
+        coinAndPer(doc);
+        sinceGrows(doc);
         String a = doc.sentence("The HABIT that costs a CAR least, the lowest.");
         due(a + " 1 and 3 cost nothing", x.advice(0), 1);
         x.terms(2, 99);
         due(a, x.advice(0), 2);
+        for (int best = 0; best < 6; best++) {
+            CoinsWarden y = new CoinsWarden();
+            y.car(0, 0, 0, 0);
+            for (int n = 0; n < 6; n++) {
+                Check.habit(y, n == best ? "throw 1" : "throw 2");
+            }
+            due(a + " each of six", y.advice(0), best);
+        }
+    }
+
+    private static void coinAndPer(Document doc) {
+        String s = doc.sentence("Words: \"slot\" | \"left\" | \"stay\" | \"more\" | \"since\" | \"coin\" | \"per\".");
+        CoinsWarden x = new CoinsWarden();
+        x.car(0, 0, 0, 0);
+        Check.habit(x, "throw coin");
+        Check.habit(x, "throw per");
+        for (int coin = 1; coin <= 9; coin++) {
+            x.terms(0, coin);
+            due(s, x.habits(0, 0), coin * coin * ONE);
+        }
+        x.terms(0, 1);
+        for (int per = 1; per <= 4; per++) {
+            x.terms(1, per);
+            due(s, x.habits(0, 1), per * ONE);
+        }
+    }
+
+    private static void sinceGrows(Document doc) {
+        String s = doc.sentence("Asked in each SLOT of a CAR ahead of his coming");
+        CoinsWarden x = withLaw("comes 0; comes 10 if since = 12 and slot > 0");
+        x.car(0, 11, 1, 0);
+        x.terms(2, 0);
+        Check.habit(x, "throw since");
+        for (int first = 1; first <= 12; first++) {
+            x.terms(4, first);
+            int want = 0;
+            int since = first;
+            for (int slot = 0; slot < 12; slot++) {
+                want += since;
+                since = since == 12 && slot > 0 ? 1 : Math.min(12, since + 1);
+            }
+            due(s + " since " + first, x.habits(0, 0), want * ONE);
+            x.day(0, 0);
+            due(s + " since " + first, x.drawn(0, 2), want);
+        }
+        CoinsWarden y = withLaw("comes 10");
+        y.car(0, 11, 1, 0);
+        Check.habit(y, "throw 0");
+        due(s + " nothing is paid, nor left", y.habits(0, 0), 480 * ONE);
+        Check.habit(y, "throw 1 if stay = 0; throw 1 if left > 0");
+        due(s + " one in the first, then none is left", y.habits(0, 1), (1 + 440) * ONE);
+        Check.habit(y, "throw 2 if stay = 0; throw 1 if left > 0");
+        due(s + " one is left in each", y.habits(0, 2), 13 * ONE);
     }
 
     private static void chalk(Document doc) {
@@ -391,7 +495,25 @@ public final class CostEdgesTest {
         }
         due(v, x.game(99, 0) * 100 + x.game(99, 1), 101);
         farFractions(v);
+        oneByOne(v);
         equalLosses(doc);
+    }
+
+    /** PLACES of which one after the other is no longer stood at, in each order. */
+    private static void oneByOne(String v) {
+        int[][] places = {{6, 36}, {47, 99}, {61, 99}, {83, 99}, {86, 87}, {98, 99}};
+        for (int first = 0; first < 6; first++) {
+            CoinsWarden x = new CoinsWarden();
+            for (int n = 0; n < 6; n++) {
+                int[] p = places[(first + n) % 6];
+                due(v, x.place(p[0], p[1]), n);
+            }
+            due(v + " at one alone", x.game(99, 0) * 100 + x.game(99, 1), 3601);
+            for (int n = 0; n < 6; n++) {
+                due(v + " he looks at that", x.game(99, 3 + 2 * n), (first + n) % 6 == 0 ? 1 : 0);
+                due(v + " he looks at that", x.game(99, 4 + 2 * n), 1);
+            }
+        }
     }
 
     /** Random PLACES, at the bounds too: CHANCES add up to one, and what one loses is as it is said. */
@@ -483,6 +605,13 @@ public final class CostEdgesTest {
         due(s + " the highest fine", z.town(3), 99);
         due(s + " the highest fine", z.town(1), 99 * ONE / 10);
         due(s + " the fewest wardens", z.town(2), 1);
+        CoinsWarden more = withLaw("comes 10; fines wardens");
+        more.car(0, 0, 0, 0);
+        more.terms(0, 9);
+        more.terms(6, 0);
+        due(s + " no more than three wardens", more.town(2), 3);
+        due(s + " no more than three wardens", more.town(1), 3 * ONE);
+        due(s + " the lowest fine, as it is not asked", more.town(3), 0);
         String t = doc.sentence("THE TOWN as it is (what 0), the most (1), WARDENS (2), FINE (3) for that.");
         answered(t, 3, new Twin.Call[] {y -> y.town(-1), y -> y.town(0), y -> y.town(1), y -> y.town(2), y -> y.town(3), y -> y.town(4)});
         Twin.alike(CHECK, t + " nothing is changed by asking", asked(), Twin.at(Twin::some), 0);
@@ -564,6 +693,24 @@ public final class CostEdgesTest {
             due(s + " at first by the best number", x.drawn(n, 1), 0);
             due(s + " at first by the best number", x.drawn(n, 2), 3);
         }
+        CoinsWarden first = new CoinsWarden();
+        first.car(2, 9, 0, 0);
+        for (int round = 0; round < 3; round++) {
+            due(s, first.day(3, NONE) >= 0 ? 1 : 0, 1);
+            due(s + " each day anew", first.drawn(0, 2), 8);
+            due(s + " each day anew", first.drawn(0, 0), 8);
+            due(s + " each day anew", first.drawn(0, 1), 0);
+        }
+        CoinsWarden again = withLaw("comes 10");
+        again.car(0, 0, 0, 0);
+        again.terms(1, 4);
+        Check.habit(again, "throw 1");
+        Check.habit(again, "throw left");
+        again.day(0, 0);
+        due(s + " one coin for four", again.drawn(0, 2), 1);
+        again.day(0, 1);
+        due(s + " what was left then is not paid the next day", again.drawn(0, 1), 1);
+        due(s + " what was left then is not paid the next day", again.drawn(0, 0), 40);
         String h = doc.sentence("ahead of that each CAR throws coins by a told HABIT (NONE: AT FIRST by the best number).");
         CoinsWarden y = withLaw("comes 10; fines 1");
         y.car(0, 11, 0, 0);

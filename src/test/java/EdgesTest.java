@@ -316,6 +316,10 @@ public final class EdgesTest {
         for (int n = 0; n < 12; n++) {
             due(w, x.went(n * 5 % 12), n % 2 == 1 ? ONE / 4096 : 0);
         }
+        CoinsWarden v = withLaw("comes 3");
+        for (int slot = 0; slot < 12; slot++) {
+            due(w + " none is told", v.went(slot), ONE / 10 * 3);
+        }
         String u = doc.sentence("The latest SLIP is undone: its SLOT.");
         for (int n = 11; n >= 0; n--) {
             due(u, x.undo(), n * 5 % 12);
@@ -342,6 +346,14 @@ public final class EdgesTest {
         x.slip(0, 0);
         due(s + " without is as good as four", x.which(), NONE);
         span(s, Twin::full, -1, 5, (y, n) -> y.fits(n) >= 0 ? 0 : -1);
+        for (int best = 0; best < 6; best++) {
+            CoinsWarden v = new CoinsWarden();
+            for (int n = 0; n < 6; n++) {
+                Check.law(v, n == best ? "comes 9" : "comes 8");
+            }
+            v.slip(11, 1);
+            due(s + " each of six", v.which(), best);
+        }
         String f = doc.sentence("of 1,000,000,000,000 in how many all SLIPS are so, by a LAW (NONE: without one), all else as it is");
         CoinsWarden z = new CoinsWarden();
         Check.law(z, "comes rain + wardens + mood + since");
@@ -593,6 +605,11 @@ public final class EdgesTest {
         z.car(2, 11, 0, 0);
         due(p + " the first", z.asks(2, 1, 0, 1), 0);
         due(p + " the last", z.asks(11, 1, 0, 1), 9);
+        Check.habit(z, "throw 0");
+        due(p + " all, half of each", z.habits(0, 0), 45 * ONE / 2);
+        due(p + " all, half of each", z.cost(0, 0), 45 * ONE / 2);
+        z.terms(0, 9);
+        due(p + " all, half of each", z.least(0, 1), 45 * ONE / 2);
     }
 
     private static void nearest(Document doc) {
@@ -611,6 +628,14 @@ public final class EdgesTest {
             due(f + " " + sums[n], x.asks(0, 1, 0, 1), fines[n]);
             due(f + " on the mean " + sums[n], x.cost(0, 0), ONE / 10 * comes[n] * fines[n]);
             Check.habit(x, "throw " + sums[n]);
+            Check.habit(x, "throw 0");
+            due(f + " by a habit " + sums[n], x.habits(0, 1), ONE / 10 * comes[n] * fines[n]);
+            x.day(0, 1);
+            due(f + " on a day " + sums[n], x.drawn(0, 0), x.drawn(0, 3) * fines[n]);
+            x.terms(0, 9);
+            due(f + " RUN " + sums[n], x.least(0, 1), Math.min(9 * ONE, ONE / 10 * comes[n] * fines[n]));
+            due(f + " DOWN " + sums[n], x.least(0, 0), Math.min(9 * ONE, ONE / 10 * comes[n] * fines[n]));
+            x.terms(0, 1);
             x.force(NONE);
             x.terms(2, 0);
             due(h + " " + sums[n], x.habits(0, 0), throwing[n] * ONE);
@@ -672,6 +697,35 @@ public final class EdgesTest {
         x.terms(2, 4);
         x.back(0);
         due(s + " images stay", x.count(14), 2);
+        otherTexts(s);
+    }
+
+    /** The same numbers, other LAWS and HABITS behind them. */
+    private static void otherTexts(String s) {
+        CoinsWarden x = new CoinsWarden();
+        x.car(0, 0, 0, 0);
+        x.image(0);
+        for (int n = 0; n < 6; n++) {
+            Check.law(x, "comes " + n);
+            Check.habit(x, "throw " + n);
+        }
+        x.terms(2, 0);
+        x.image(1);
+        x.back(0);
+        for (int n = 0; n < 6; n++) {
+            Check.law(x, "comes " + (9 - n));
+            Check.habit(x, "throw " + (9 - n));
+        }
+        x.terms(2, 0);
+        x.image(0);
+        for (int k = 0; k < 2; k++) {
+            due(s, x.back(k), 0);
+            for (int n = 0; n < 6; n++) {
+                x.force(n);
+                due(s + " law " + n, x.asks(0, 1, 0, 0), k == 1 ? n : 9 - n);
+                due(s + " habit " + n, x.habits(0, n), (k == 1 ? n : 9 - n) * ONE);
+            }
+        }
     }
 
     /** An IMAGE of one state, then other calls on top, then BACK: the first state, but for what is not kept. */
