@@ -642,6 +642,7 @@ public final class EdgesTest {
             x.day(0, 0);
             due(h + " " + sums[n], x.drawn(0, 2), throwing[n]);
         }
+        finesEachTime(f, sums, fines);
         CoinsWarden x = withLaw("comes 3 if slot = 1; fines 3 if slot = 1; spares if slot = 1");
         x.car(0, 1, 0, 0);
         due(c, x.asks(0, 1, 0, 0), 5);
@@ -656,6 +657,24 @@ public final class EdgesTest {
         }
         Check.habit(x, "throw 5 if slot = 9");
         due(h + " without", x.habits(0, 0), x.cost(0, 0));
+    }
+
+    /** He comes for sure: what is fined is what all calls reckon with. */
+    private static void finesEachTime(String f, String[] sums, int[] fines) {
+        for (int n = 0; n < sums.length; n++) {
+            CoinsWarden x = withLaw("comes 10; fines " + sums[n]);
+            x.car(3, 3, 0, 9);
+            x.terms(0, 9);
+            Check.habit(x, "throw 0");
+            due(f + " cost " + sums[n], x.cost(0, 0), fines[n] * ONE);
+            due(f + " habit " + sums[n], x.habits(0, 0), fines[n] * ONE);
+            for (int what = 0; what < 3; what++) {
+                due(f + " least " + what + " " + sums[n], x.least(0, what), Math.min(9, fines[n]) * ONE);
+            }
+            due(f + " run " + sums[n], x.run(0, 3, 1, 0), fines[n] > 9 ? 1 : 0);
+            x.day(0, 0);
+            due(f + " on a day " + sums[n], x.drawn(0, 0), fines[n]);
+        }
     }
 
     private static void likely(Document doc) {
