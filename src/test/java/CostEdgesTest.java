@@ -132,6 +132,16 @@ public final class CostEdgesTest {
         due(s, y.least(0, 2), 9);
         due(s, y.coins(0, 0), 0);
         due(s + " the least chance", y.likely(11, 1), 1);
+        CoinsWarden last = withLaw("comes 9; comes 1 if slot = 11 and since = 12; fines 99 if since = 12");
+        last.car(11, 11, 0, 0);
+        last.terms(4, 1);
+        last.terms(2, 0);
+        Check.habit(last, "throw 0");
+        due(s + " a single part", last.cost(0, 0), 99);
+        due(s + " a single part", last.habits(0, 0), 99);
+        due(s + " a single part", last.least(0, 0), 99);
+        due(s + " RUN: a coin in the ten parts in which he may still come", last.least(0, 1), 10);
+        due(s + " WARNED: a coin in the one in which he does", last.least(0, 2), 1);
         CoinsWarden z = withLaw("comes 10; fines 99");
         z.car(0, 11, 0, 9);
         z.terms(0, 9);
@@ -201,6 +211,8 @@ public final class CostEdgesTest {
         p.terms(2, 1);
         due(s + " a coin for two fines, or none at all", p.least(0, 0), 3 * ONE);
         rowOf(s + " none is the first", p, 0, 0, 0, 0, 0, 0, 0, 0, 0);
+        longRows(s);
+        oneBehindAnother(s);
         String i = doc.sentence("DOWN: coins in the i-th SLOT of a CAR (i 0 .. ).");
         for (int till = 0; till < 12; till++) {
             CoinsWarden z = new CoinsWarden();
@@ -208,6 +220,43 @@ public final class CostEdgesTest {
             due(i + " the last", z.down(0, till) >= 0 ? 1 : 0, 1);
             due(i + " behind it", z.down(0, till + 1), NONE);
             due(i + " ahead", z.down(0, -1), NONE);
+        }
+    }
+
+    /** Coins in the first SLOT that last for some, and others later: what is left between must be told rightly. */
+    private static void longRows(String s) {
+        CoinsWarden x = withLaw("comes 0; comes 5 if slot = 1 or slot = 7; comes 9 if slot = 3; comes 8 if slot = 10");
+        x.car(0, 11, 0, 8);
+        x.terms(0, 9);
+        x.terms(1, 4);
+        x.terms(2, 66);
+        due(s + " 9 for 0 .. 3, 17 for 7 .. 10", x.least(0, 0), 26 * ONE);
+        rowOf(s + " one, and one in 7", x, 1, 0, 0, 0, 0, 0, 0, 1, 0, 0, 0, 0);
+        CoinsWarden y = withLaw("comes 0; comes 7 if slot = 0 or slot = 4; comes 4 if slot = 1; comes 2 if slot = 6 or slot = 11");
+        y.car(0, 11, 0, 2);
+        y.terms(0, 9);
+        y.terms(1, 3);
+        y.terms(2, 67);
+        due(s + " 9 for 0 .. 2, 11 for 4 .. 6, 11 for 11", y.least(0, 0), 31 * ONE);
+        rowOf(s + " one in 0, in 4, in 11", y, 1, 0, 0, 0, 1, 0, 0, 0, 0, 0, 0, 1);
+    }
+
+    /** What was reckoned of a CAR that stays longer is not in what is asked of another one then. */
+    private static void oneBehindAnother(String s) {
+        for (int till = 0; till < 12; till++) {
+            CoinsWarden x = new CoinsWarden();
+            x.car(0, 11, 0, 9);
+            x.car(0, till, 0, 9);
+            for (int what = 0; what < 4; what++) {
+                CoinsWarden alone = new CoinsWarden();
+                alone.car(0, till, 0, 9);
+                long want = alone.least(0, what);
+                x.least(0, what);
+                due(s + " least " + what + " behind another car", x.least(1, what), want);
+                x.down(0, 0);
+                due(s + " down behind another car", x.down(1, 0), alone.down(0, 0));
+                due(s + " one slot, one coin", x.down(1, 0), till + 1);
+            }
         }
     }
 
