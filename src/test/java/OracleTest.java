@@ -227,6 +227,28 @@ public final class OracleTest {
         }
     }
 
+    private void askLongPlans() {
+        for (int c = 0; c < naive.cars.size(); c++) {
+            int[] car = naive.cars.get(c);
+            int length = car[1] - car[0] + 1;
+            Backward run = new Backward(naive, c, false);
+            long[] down = run.down();
+            CHECK.due("long down", x.least(c, 0), down[length]);
+            CHECK.due("long run", x.least(c, 1), run.least());
+            CHECK.due("long warned", x.least(c, 2), new Backward(naive, c, true).least());
+            CHECK.due("long soup", x.least(c, 3), down[length] - run.least());
+            for (int i = 0; i < length; i++) {
+                CHECK.due("long down " + i, x.down(c, i), down[i]);
+            }
+            for (int n = 0; n < 20; n++) {
+                int slot = car[0] + any(length);
+                int since = 1 + any(12);
+                int left = any(3) == 0 ? any(13) : 0;
+                CHECK.due("long run", x.run(c, slot, since, left), run.coins(slot, since, left));
+            }
+        }
+    }
+
     private void askGame() {
         int toll = any(100);
         if (naive.places.isEmpty()) {
@@ -286,6 +308,11 @@ public final class OracleTest {
             OracleTest t = new OracleTest(seed);
             t.build(4);
             t.askPlans();
+        }
+        for (int seed = 3000; seed < 3060; seed++) {
+            OracleTest t = new OracleTest(seed);
+            t.build(12);
+            t.askLongPlans();
         }
         for (int seed = 2000; seed < 2004; seed++) {
             OracleTest t = new OracleTest(seed);
