@@ -518,6 +518,7 @@ public final class PromisesTest {
         x.terms(2, 99);
         due("18: unwarned", x.least(0, 1), 9 * ONE);
         due("18: warned, with flights in the first slot too", x.least(0, 2), ONE * 11 / 10);
+        due("20: nobody warns in RUN, though WARNED was asked ahead", x.run(0, 3, 12, 0), 1);
         x.terms(2, 10);
         due("18: the fine is less than coin and flights", x.least(0, 2), ONE);
         CoinsWarden y = withLaw("comes 10");

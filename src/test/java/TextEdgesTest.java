@@ -237,6 +237,26 @@ public final class TextEdgesTest {
         both(s, " 1 if ()", 12);
         both(s, " 1 if [1=1]", 13);
         both(s, " 1 if (1)=1", 13);
+        CoinsWarden x = new CoinsWarden();
+        for (int n = 0; n < 10; n++) {
+            due(s + " a text that breaks off", Check.law(x, "comes [[[1"), -6);
+            due(s + " a text that breaks off", Check.habit(x, "throw 1 if (((1 = 1"), -6);
+        }
+        due(s + " each text anew", Check.law(x, "comes " + many("[", 8) + "1" + many("]", 8)), 0);
+        due(s + " each text anew", Check.habit(x, "throw 1 if " + many("(", 8) + "1=1" + many(")", 8)), 0);
+    }
+
+    /** What one TEXT took is there again for the next: thirty of fifty PARTS each, one behind the other. */
+    private static void oneBehindAnother() {
+        CoinsWarden x = new CoinsWarden();
+        x.image(0);
+        for (int n = 0; n < 30; n++) {
+            int comes = n % 11;
+            due("text " + n + " on one tape", Check.law(x, "comes " + comes + many("+0", 49)), 0);
+            x.force(0);
+            due("text " + n + " is reckoned", x.asks(0, 1, 0, 0), comes);
+            x.back(0);
+        }
     }
 
     private static void faults(Document doc) {
@@ -594,6 +614,7 @@ public final class TextEdgesTest {
         numbers(doc);
         parts(doc);
         brackets(doc);
+        oneBehindAnother();
         faults(doc);
         longTexts(doc);
         room(doc);
