@@ -22,13 +22,16 @@ final class Check {
         }
     }
 
-    /** Feeds bytes, with blanks up to twenty, and cuts the tape to them. */
+    /**
+     * Feeds bytes, with zeros up to twenty, and cuts the tape to them: behind its end there stands what would be
+     * good in a row and wrong in a text, so that it is seen if it is read all the same.
+     */
     static void feed(CoinsWarden x, byte[] bytes) {
         int before = x.count(5);
         for (int at = 0; at < bytes.length; at += 20) {
             int[] five = new int[5];
             for (int n = 0; n < 20; n++) {
-                int sign = at + n < bytes.length ? bytes[at + n] & 255 : ' ';
+                int sign = at + n < bytes.length ? bytes[at + n] & 255 : 0;
                 five[n / 4] = five[n / 4] << 8 | sign;
             }
             x.feed(five[0], five[1], five[2], five[3], five[4]);

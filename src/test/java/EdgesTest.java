@@ -468,6 +468,12 @@ public final class EdgesTest {
             int[] bytes = new int[8 + more];
             due(s + " ends within one", rowOf(x, bytes), 2);
             due(s + " ends within one", x.tar(), more == 0 ? 0 : 1);
+            CoinsWarden cut = new CoinsWarden();
+            cut.feed(0x01020003, 0x04050106, 0x07080109, 0, 0);
+            cut.end(8 + more);
+            due(s + " what was cut off is no part of it", cut.row(), 2);
+            due(s + " what was cut off is no part of it", cut.tar(), more == 0 ? 0 : 1);
+            due(s + " what was cut off is no part of it", cut.count(0), 2);
             due(s + " the tape is empty", x.count(5), 0);
         }
         CoinsWarden x = new CoinsWarden();

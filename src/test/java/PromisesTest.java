@@ -830,6 +830,52 @@ public final class PromisesTest {
         due("34: fined once", x.drawn(0, 1), 1);
     }
 
+    /** So many of each kind: no two numbers alike, so that none can stand for another one. */
+    private static void bringSoMany(CoinsWarden x, int... many) {
+        for (int n = 0; n < 6; n++) {
+            if (n < many[0]) {
+                x.car(n, n + 5, n % 2, n);
+            }
+            if (n < many[1]) {
+                Check.law(x, "comes " + (n + 1));
+            }
+            if (n < many[2]) {
+                Check.habit(x, "throw " + (n + 3));
+            }
+            if (n < many[3]) {
+                x.place(n, 50 + n);
+            }
+            if (n < many[4]) {
+                x.slip(11 - n, n % 2);
+            }
+        }
+    }
+
+    private static void promise36EachKind() {
+        int[][] some = {{1, 2, 3, 4, 5}, {5, 4, 3, 2, 1}, {2, 6, 0, 3, 4}, {6, 0, 5, 1, 2}, {3, 1, 4, 6, 0}};
+        for (int[] kept : some) {
+            for (int[] now : some) {
+                CoinsWarden x = new CoinsWarden();
+                x.image(1);
+                bringSoMany(x, kept);
+                due("35: kept", x.image(0), 0);
+                x.back(1);
+                bringSoMany(x, now);
+                due("36: back", x.back(0), 0);
+                for (int what = 0; what < 5; what++) {
+                    due("36: as many of kind " + what + " as then", x.count(what), kept[what]);
+                }
+                due("36: the last law of then", x.force(kept[1] - 1), NONE);
+                due("36: the last law of then", x.asks(0, 1, 0, 0), kept[1] == 0 ? 5 : kept[1]);
+                x.terms(2, 0);
+                due("36: the last habit of then", x.habits(0, kept[2] - 1),
+                    kept[2] == 0 ? NONE : 6 * (kept[2] + 2) * ONE + 5 * x.fact(0, 3) * ONE);
+                due("36: no habit more", x.habits(0, kept[2]), NONE);
+                due("36: no law more", x.fits(kept[1]), NONE);
+            }
+        }
+    }
+
     private static void promise35And36Images() {
         CoinsWarden x = new CoinsWarden();
         due("35: wrong", x.image(2), -1);
@@ -981,6 +1027,7 @@ public final class PromisesTest {
         promise33SixCars();
         promise33Habit();
         promise35And36Images();
+        promise36EachKind();
         promise37And38Count();
         CHECK.close("PromisesTest");
     }
